@@ -756,6 +756,21 @@ public final class PromiseTests {
         script(x, 3, 7000L, 0);
         script(x, 4, 9999999999999999L, 0);
         script(x, 4, 7000700070009999L, 3);
+        CitationKeys y = Checks.loaded("abc:2098:t;abcd:1998:t;a:2000:a;a:2000:b;a:2000:c");
+        script(y, 2, 30009001L, NONE);
+        script(y, 2, 30019002L, NONE);
+        script(y, 3, 300130009001L, NONE);
+        script(y, 3, 700010028001L, 2);
+        script(y, 3, 700010028002L, NONE);
+        script(y, 2, 10028000L, NONE);
+        for (int n = 5; n < 16; n++) {
+            Checks.added(y, "z:2100:t");
+        }
+        script(y, 1, 4155, NONE);
+        script(y, 1, 4165, 0);
+        script(y, 2, 41569005L, 1);
+        script(y, 2, 41569150L, NONE);
+        script(y, 2, 41009101L, 1);
         script(new CitationKeys(), 1, 1000, 0);
         script(new CitationKeys(), 1, 7000, NONE);
     }
