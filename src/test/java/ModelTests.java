@@ -11,7 +11,7 @@ public final class ModelTests {
 
     private final Checks checks = new Checks();
     private Random random;
-    private CitationKeys x;
+    private Keys x;
     private Model model;
     private int calls;
 
@@ -26,7 +26,7 @@ public final class ModelTests {
 
     private void run(int seed) {
         random = new Random(seed);
-        x = new CitationKeys();
+        x = new Keys();
         model = new Model();
         calls = 0;
         if (random.nextInt(3) > 0) {
