@@ -395,6 +395,11 @@ public final class EdgeLookTests extends Edges {
             String other = key.substring(0, n) + "?" + key.substring(n + 1);
             due(other, meaning(x, other), NONE);
         }
+        edge(11, "a key with one character more before or behind it means nothing, be it a blank or the character 0");
+        for (char c : new char[] {0, ' ', '+', '0', 'a', 'b', 255}) {
+            due(c + key, meaning(x, c + key), NONE);
+            due(key + c, meaning(x, key + c), NONE);
+        }
         edge(11, "an empty text and one of 100 characters mean nothing");
         due("no text", meaning(x, ""), NONE);
         due("100 characters", meaning(x, "a".repeat(100)), NONE);
@@ -421,7 +426,7 @@ public final class EdgeLookTests extends Edges {
         due("a98a", printedMeaning(y, "a98a"), 0);
         due("a98p", printedMeaning(y, "a98p"), 15);
         edge(12, "NONE if the text is no printed key: almost one, an empty text, 100 characters");
-        for (String text : new String[] {"ab98", "ab98c", "ab98aa", "cd9", "cd98a", "CD98", "", "a".repeat(100)}) {
+        for (String text : new String[] {"ab98", "ab98c", "ab98aa", "cd9", "cd98a", "CD98", " cd98", "cd98 ", "", "a".repeat(100)}) {
             due(text, printedMeaning(x, text), NONE);
         }
         edge(12, "GONE if it belongs to none any more");
@@ -524,8 +529,10 @@ public final class EdgeLookTests extends Edges {
         unchanging("at(3)", Edges::busy, NONE, x -> x.at(3));
         edge(11, "looking changes nothing and is no action");
         unchanging("meaning()", () -> busyWith("smi98"), 1, x -> x.meaning());
+        unchanging("meaning()", () -> busyWith("smi98 "), NONE, x -> x.meaning());
         edge(12, "looking changes nothing and is no action");
         unchanging("printedMeaning()", () -> busyWith("z05"), GONE, x -> x.printedMeaning());
+        unchanging("printedMeaning()", () -> busyWith("z05 "), NONE, x -> x.printedMeaning());
         edge(13, "looking changes nothing and is no action");
         unchanging("printed(0)", Edges::busy, 1, x -> x.printed(0));
     }

@@ -51,7 +51,7 @@ public final class EdgeTextTests extends Edges {
 
     private void twoObjects() {
         edge(1, "a second object is without works, whatever has been done with the first one");
-        Keys first = busy();
+        Keys first = alike(3);
         String before = Checks.picture(first);
         Keys second = nothing();
         due("works of the second", second.about(0), 0);

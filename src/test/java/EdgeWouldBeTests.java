@@ -117,9 +117,9 @@ public final class EdgeWouldBeTests extends Edges {
     }
 
     /** Sixteen works, the first with its year, the others with years one after the other. */
-    private static Keys crowded(int own, int firstOther) {
+    private static Keys crowded(int style, int own, int firstOther) {
         Keys x = alike(16);
-        x.setStyle(1);
+        x.setStyle(style);
         x.setYear(0, own);
         for (int i = 1; i < 16; i++) {
             x.setYear(i, firstOther + i - 1);
@@ -129,20 +129,30 @@ public final class EdgeWouldBeTests extends Edges {
 
     private void freeYearFarAway() {
         edge(23, "the farthest year that fifteen others can force: fifteen later, fifteen earlier, eight in the middle");
-        due("freeYear(0) of 1000 to 1014", crowded(1000, 1000).freeYear(0), 1015);
-        due("freeYear(0) of 2985 to 2999", crowded(2999, 2985).freeYear(0), 2984);
-        due("freeYear(0) of 1993 to 2007", crowded(2000, 1993).freeYear(0), 1992);
+        due("freeYear(0) of 1000 to 1014", crowded(1, 1000, 1000).freeYear(0), 1015);
+        due("freeYear(0) of 2985 to 2999", crowded(1, 2999, 2985).freeYear(0), 2984);
+        due("freeYear(0) of 1993 to 2007", crowded(1, 2000, 1993).freeYear(0), 1992);
         edge(23, "near the least year only later ones are left, near the greatest only earlier ones");
-        due("freeYear(0) of 1007 in 1000 to 1014", crowded(1007, 1000).freeYear(0), 1015);
-        due("freeYear(0) of 1006 in 1001 to 1015", crowded(1006, 1001).freeYear(0), 1000);
-        due("freeYear(0) of 2992 in 2985 to 2999", crowded(2992, 2985).freeYear(0), 2984);
-        due("freeYear(0) of 2993 in 2984 to 2998", crowded(2993, 2984).freeYear(0), 2999);
+        due("freeYear(0) of 1007 in 1000 to 1014", crowded(1, 1007, 1000).freeYear(0), 1015);
+        due("freeYear(0) of 1006 in 1001 to 1015", crowded(1, 1006, 1001).freeYear(0), 1000);
+        due("freeYear(0) of 2992 in 2985 to 2999", crowded(1, 2992, 2985).freeYear(0), 2984);
+        due("freeYear(0) of 2993 in 2984 to 2998", crowded(1, 2993, 2984).freeYear(0), 2999);
         edge(23, "the last of sixteen works: the only one that is free of the others");
-        Keys x = crowded(1500, 1000);
+        Keys x = crowded(1, 1500, 1000);
         due("freeYear(0)", x.freeYear(0), 1500);
         due("freeYear(15)", x.freeYear(15), 1014);
         x.setYear(0, 1014);
         due("freeYear(15)", x.freeYear(15), 1015);
+        edge(23, "NONE if there is none: but fifteen others leave one, also with two digits, with every style");
+        for (int style = 0; style <= 3; style++) {
+            due("freeYear(0) of 1000 to 1014", crowded(style, 1000, 1000).freeYear(0), 1015);
+            due("freeYear(0) of 2985 to 2999", crowded(style, 2999, 2985).freeYear(0), 2984);
+            due("freeYear(0) of 1993 to 2007", crowded(style, 2000, 1993).freeYear(0), 1992);
+            boolean twoDigits = style == 0 || style == 2;
+            due("freeYear(0) of 1000 and 2000 to 2014", crowded(style, 1000, 2000).freeYear(0), twoDigits ? 1015 : 1000);
+            due("freeYear(0) of 2999 and 1085 to 1099", crowded(style, 2999, 1085).freeYear(0), twoDigits ? 2984 : 2999);
+            due("freeYear(0) of 1500 and 1592 to 1606", crowded(style, 1500, 1592).freeYear(0), twoDigits ? 1507 : 1500);
+        }
     }
 
     private void lettersWith() {
@@ -700,7 +710,8 @@ public final class EdgeWouldBeTests extends Edges {
         edge(30, "nothing has been saved in it: in a new object, and when only the other one has something");
         refused("restore(0)", Edges::nothing, STATE, x -> x.restore(0));
         refused("restore(1)", Edges::nothing, STATE, x -> x.restore(1));
-        refused("restore(1)", Edges::busy, STATE, x -> x.restore(1));
+        refused("restore(1)", () -> savedOnlyIn(0), STATE, x -> x.restore(1));
+        refused("restore(0)", () -> savedOnlyIn(1), STATE, x -> x.restore(0));
         Keys x = Checks.loaded("a:1998:t");
         x.save(1);
         due("restore(0)", Checks.answer(() -> x.restore(0)), "throws IllegalStateException");

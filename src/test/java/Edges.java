@@ -99,7 +99,7 @@ abstract class Edges {
 
     /**
      * Three works of four that were there, in the order of years, with a printed list (one key is another work's now, two
-     * are no work's), five remembered states, something saved in slot 0 and nothing in slot 1.
+     * are no work's), five remembered states, and other states saved in both slots.
      */
     static Keys busy() {
         Keys x = Checks.loaded("smi,li:1998:ow;smi:1898:a;z:2005:x");
@@ -107,6 +107,7 @@ abstract class Edges {
         x.save(0);
         x.setOrder(1);
         x.remove(2);
+        x.save(1);
         Checks.added(x, "z:2005:y");
         x.setYear(0, 1997);
         return x;
@@ -133,6 +134,14 @@ abstract class Edges {
         for (int n = 1; n <= actions; n++) {
             x.setYear(0, 1000 + n);
         }
+        return x;
+    }
+
+    /** One work, two remembered states, and something saved in this slot only. */
+    static Keys savedOnlyIn(int slot) {
+        Keys x = acted(1);
+        x.save(slot);
+        x.setYear(0, 2000);
         return x;
     }
 
